@@ -137,7 +137,7 @@ public final class ParcelMap {
             return fault;
         }
         history.keep(parcels, made, NONE);
-        found(layer, owner, settled);
+        establish(layer, owner, settled);
         drawn.clear();
         return made - 1;
     }
@@ -205,7 +205,7 @@ public final class ParcelMap {
         trial.clear();
         trial.appendPart(ring, i, j);
         survey.settle(trial, settled);
-        found(parcels[p].layer, owner, settled);
+        establish(parcels[p].layer, owner, settled);
         // Corner 0 stays with what is kept, so that needs no new beginning.
         ring.cutOut(i + 1, j);
         return made - 1;
@@ -449,7 +449,7 @@ public final class ParcelMap {
     }
 
     /** The callers have seen to it that there is a number left. */
-    private void found(int layer, int owner, Ring ring) {
+    private void establish(int layer, int owner, Ring ring) {
         if (made < MOST_PARCELS) {
             Parcel parcel = parcels[made];
             parcel.there = true;
@@ -607,6 +607,8 @@ public final class ParcelMap {
         static final int PARTS = 4;
         static final int PART_BITS = 26;
         static final long PART_MASK = (1L << PART_BITS) - 1;
+        private static final long SIGN = 1L << 63;
+        private static final long BELOW_SIGN = ~SIGN;
         private static final int HEAD_BITS = 52;
         private static final int BIAS = 1023;
         private static final int LEAST_POWER = BIAS - 20;
@@ -640,18 +642,18 @@ public final class ParcelMap {
         }
 
         static boolean isNumber(long bits) {
-            long magnitude = bits & Long.MAX_VALUE;
+            long magnitude = bits & BELOW_SIGN;
             return magnitude == 0 || magnitude >= (long) LEAST_POWER << HEAD_BITS
                     && magnitude <= (long) GREATEST_POWER << HEAD_BITS;
         }
 
         static long rankOf(long bits) {
-            long magnitude = bits & Long.MAX_VALUE;
+            long magnitude = bits & BELOW_SIGN;
             return bits < 0 ? -magnitude : magnitude;
         }
 
         static long bitsOf(long rank) {
-            return rank < 0 ? Long.MIN_VALUE - rank : rank;
+            return rank < 0 ? SIGN - rank : rank;
         }
 
         boolean has(int c) {
@@ -697,7 +699,7 @@ public final class ParcelMap {
         }
 
         private static double realOf(long bits) {
-            long magnitude = bits & Long.MAX_VALUE;
+            long magnitude = bits & BELOW_SIGN;
             if (magnitude == 0) {
                 return 0.0;
             }
@@ -710,7 +712,7 @@ public final class ParcelMap {
         }
 
         private static void writeParts(long[] row, int place, long bits) {
-            long magnitude = bits & Long.MAX_VALUE;
+            long magnitude = bits & BELOW_SIGN;
             int up = (int) (magnitude >>> HEAD_BITS) - LEAST_POWER;
             for (int k = 0; k < PARTS; k++) {
                 int down = PART_BITS * k - up;
@@ -1074,16 +1076,16 @@ public final class ParcelMap {
         }
 
         private static long least(long[] rank, Ring ring) {
-            long best = Long.MAX_VALUE;
-            for (int i = 0; i < ring.size; i++) {
+            long best = rank[ring.from(0)];
+            for (int i = 1; i < ring.size; i++) {
                 best = Math.min(best, rank[ring.from(i)]);
             }
             return best;
         }
 
         private static long greatest(long[] rank, Ring ring) {
-            long best = Long.MIN_VALUE;
-            for (int i = 0; i < ring.size; i++) {
+            long best = rank[ring.from(0)];
+            for (int i = 1; i < ring.size; i++) {
                 best = Math.max(best, rank[ring.from(i)]);
             }
             return best;

@@ -1,3 +1,6 @@
+import java.math.BigDecimal;
+import java.util.Random;
+
 /** Promises 1 to 7: a new object, corner, at, side, sure, cross, nearest. */
 final class CornersTest {
     private static final Check CHECK = new Check();
@@ -13,6 +16,8 @@ final class CornersTest {
         crossings();
         nearest();
         nearestByAHair();
+        sidesAllButInLine();
+        nearestAllButAsNear();
         CHECK.finish();
     }
 
@@ -222,5 +227,65 @@ final class CornersTest {
         Check.corner(map, 3, Math.nextDown(4));
         Check.corner(map, -4, 3);
         CHECK.due("3 4 5", map.nearest(0, 0), 1);
+    }
+
+    private static BigDecimal gap(double a, double b) {
+        return new BigDecimal(a).subtract(new BigDecimal(b));
+    }
+
+    private static double any(Random random, int power) {
+        double d = (random.nextDouble() - 0.5) * Math.scalb(1.0, power);
+        return Math.abs(d) < 0x1p-20 ? 0 : d;
+    }
+
+    private static void sidesAllButInLine() {
+        Random random = new Random(5);
+        int unsure = 0;
+        for (int i = 0; i < 4000; i++) {
+            int power = random.nextInt(40) - 12;
+            double ax = any(random, power);
+            double ay = any(random, power);
+            double bx = any(random, power);
+            double by = any(random, random.nextInt(40) - 12);
+            double t = random.nextDouble() * 0.9;
+            double cx = ax + t * (bx - ax);
+            double cy = ay + t * (by - ay);
+            ParcelMap map = new ParcelMap();
+            int a = Check.corner(map, ax, ay);
+            int b = Check.corner(map, bx, by);
+            int c = Check.corner(map, cx, cy);
+            if (a < 0 || b < 0 || c < 0) {
+                continue;
+            }
+            int due = gap(ax, cx).multiply(gap(by, cy))
+                    .subtract(gap(ay, cy).multiply(gap(bx, cx))).signum();
+            CHECK.due("side of random corners " + i, map.side(a, b, c), due);
+            unsure += 1 - map.sure();
+        }
+        CHECK.holds("many a side was not sure", unsure > 1000);
+    }
+
+    private static void nearestAllButAsNear() {
+        Random random = new Random(6);
+        int misled = 0;
+        for (int i = 0; i < 4000; i++) {
+            double px = any(random, 20);
+            double py = any(random, 20);
+            double dx = any(random, 18);
+            double dy = any(random, 18);
+            double[] a = {px + dx, py + dy};
+            double[] b = {px - dy, py + dx};
+            ParcelMap map = new ParcelMap();
+            Check.corner(map, a[0], a[1]);
+            Check.corner(map, b[0], b[1]);
+            BigDecimal farA = gap(a[0], px).pow(2).add(gap(a[1], py).pow(2));
+            BigDecimal farB = gap(b[0], px).pow(2).add(gap(b[1], py).pow(2));
+            int due = farB.compareTo(farA) < 0 ? 1 : 0;
+            CHECK.due("nearest of two, " + i, map.nearest(Check.bits(px), Check.bits(py)), due);
+            double quickA = (a[0] - px) * (a[0] - px) + (a[1] - py) * (a[1] - py);
+            double quickB = (b[0] - px) * (b[0] - px) + (b[1] - py) * (b[1] - py);
+            misled += (quickB < quickA ? 1 : 0) != due ? 1 : 0;
+        }
+        CHECK.holds("many a distance in doubles would mislead", misled > 20);
     }
 }

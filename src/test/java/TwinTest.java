@@ -26,7 +26,7 @@ final class TwinTest {
         int runs = args.length > 0 ? Integer.parseInt(args[0]) : 12;
         long seed = args.length > 1 ? Long.parseLong(args[1]) : 1;
         for (int i = 0; i < runs; i++) {
-            for (int kind = 0; kind < 6; kind++) {
+            for (int kind = 0; kind < 8; kind++) {
                 new TwinTest(seed * 1000003 + i * 10L + kind, kind).runAll();
             }
         }
@@ -55,8 +55,11 @@ final class TwinTest {
     }
 
     private void runAll() {
+        if (kind >= 6) {
+            layBricks();
+        }
         while (calls < CALLS) {
-            if (random.nextInt(3) == 0) {
+            if (random.nextInt(kind >= 6 ? 60 : 3) == 0) {
                 drawOne();
             } else {
                 one();
@@ -70,7 +73,7 @@ final class TwinTest {
 
     private long number() {
         switch (kind) {
-            case 0:
+            case 0, 6, 7:
                 return Check.bits(random.nextInt(5));
             case 1:
                 return Check.bits(random.nextInt(9) - 4);
@@ -87,6 +90,32 @@ final class TwinTest {
                 return Check.bits(near == 0 ? 0 : near + steps * Math.ulp(near));
             default:
                 return Check.bits(random.nextInt(40) == 0 ? 0x1p-21 : (random.nextDouble() - 0.5) * 100);
+        }
+    }
+
+    private int cornerAt(int x, int y) {
+        long bitsX = Check.bits(x);
+        long bitsY = Check.bits(y);
+        int c = map.corner(bitsX, bitsY);
+        same("corner(" + bitsX + ", " + bitsY + ")", c, plain.corner(bitsX, bitsY));
+        return c;
+    }
+
+    /** Rows of parcels beside and above one another, so that there is much to join. */
+    private void layBricks() {
+        for (int y = 0; y < 4; y++) {
+            int x = 0;
+            while (x < 4) {
+                int wide = kind == 6 ? 1 : 1 + random.nextInt(2);
+                same("draw()", map.draw(), plain.draw());
+                int[][] ring = {{x, y}, {x + wide, y}, {x + wide, y + 1}, {x, y + 1}};
+                for (int[] at : ring) {
+                    int c = cornerAt(at[0], at[1]);
+                    same("add(" + c + ")", map.add(c), plain.add(c));
+                }
+                same("close(0, 0)", map.close(0, 0), plain.close(0, 0));
+                x += wide;
+            }
         }
     }
 
@@ -176,14 +205,15 @@ final class TwinTest {
     }
 
     private void one() {
-        switch (random.nextInt(7)) {
+        switch (random.nextInt(kind >= 6 ? 14 : 7)) {
             case 0 -> ofCorners();
             case 1 -> ofShapes();
             case 2 -> ofShapes();
             case 3 -> ofFinding();
             case 4 -> ofAreas();
             case 5 -> ofNeighbours();
-            default -> ofState();
+            case 6 -> ofState();
+            default -> ofShapes();
         }
     }
 
