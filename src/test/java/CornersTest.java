@@ -269,22 +269,21 @@ final class CornersTest {
         Random random = new Random(6);
         int misled = 0;
         for (int i = 0; i < 4000; i++) {
-            double px = any(random, 20);
-            double py = any(random, 20);
-            double dx = any(random, 18);
-            double dy = any(random, 18);
-            double[] a = {px + dx, py + dy};
-            double[] b = {px - dy, py + dx};
+            double x = 1 + random.nextDouble();
+            double y = 1 + random.nextDouble();
+            int steps = random.nextInt(60);
+            // About as far as (x, y): what one number gains, the other one loses.
+            double[] b = {y + steps * 0x1p-52, x - Math.round(steps * y / x) * 0x1p-52};
             ParcelMap map = new ParcelMap();
-            Check.corner(map, a[0], a[1]);
+            Check.corner(map, x, y);
             Check.corner(map, b[0], b[1]);
-            BigDecimal farA = gap(a[0], px).pow(2).add(gap(a[1], py).pow(2));
-            BigDecimal farB = gap(b[0], px).pow(2).add(gap(b[1], py).pow(2));
+            BigDecimal farA = gap(x, 0).pow(2).add(gap(y, 0).pow(2));
+            BigDecimal farB = gap(b[0], 0).pow(2).add(gap(b[1], 0).pow(2));
             int due = farB.compareTo(farA) < 0 ? 1 : 0;
-            CHECK.due("nearest of two, " + i, map.nearest(Check.bits(px), Check.bits(py)), due);
-            double quickA = (a[0] - px) * (a[0] - px) + (a[1] - py) * (a[1] - py);
-            double quickB = (b[0] - px) * (b[0] - px) + (b[1] - py) * (b[1] - py);
-            misled += (quickB < quickA ? 1 : 0) != due ? 1 : 0;
+            CHECK.due("nearest of two, " + i, map.nearest(0, 0), due);
+            double quickA = x * x + y * y;
+            double quickB = b[0] * b[0] + b[1] * b[1];
+            misled += due == 1 && quickB > quickA || due == 0 && quickB < quickA ? 1 : 0;
         }
         CHECK.holds("many a distance in doubles would mislead", misled > 20);
     }
