@@ -545,7 +545,7 @@ public final class ParcelMap {
             return there && layer == asked;
         }
 
-        void copy(Parcel other) {
+        void become(Parcel other) {
             there = other.there;
             layer = other.layer;
             owner = other.owner;
@@ -573,10 +573,10 @@ public final class ParcelMap {
             numberTwo = second;
             open = true;
             if (first >= 0 && first < parcels.length) {
-                one.copy(parcels[first]);
+                one.become(parcels[first]);
             }
             if (second >= 0 && second < parcels.length) {
-                two.copy(parcels[second]);
+                two.become(parcels[second]);
             }
         }
 
@@ -586,10 +586,10 @@ public final class ParcelMap {
             }
             open = false;
             if (numberOne >= 0 && numberOne < parcels.length) {
-                parcels[numberOne].copy(one);
+                parcels[numberOne].become(one);
             }
             if (numberTwo >= 0 && numberTwo < parcels.length) {
-                parcels[numberTwo].copy(two);
+                parcels[numberTwo].become(two);
             }
             return true;
         }

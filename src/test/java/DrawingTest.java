@@ -186,18 +186,15 @@ final class DrawingTest {
     }
 
     private static void sixtyParcels() {
-        ParcelMap map = new ParcelMap();
-        for (int i = 0; i < 60; i++) {
-            CHECK.due("parcel " + i, Check.box(map, i % 4, i / 4, 0, i / 4 + 1, 1), i);
-        }
-        CHECK.due("the 61st", Check.box(map, 0, 0, 5, 1, 6), ParcelMap.FULL);
+        ParcelMap map = Scenes.sixty();
+        CHECK.due("made ever", map.count(2), 60);
+        CHECK.due("the 61st", Check.box(map, 0, 0, -6, 1, -5), ParcelMap.FULL);
         CHECK.due("still drawn", map.count(3), 4);
         CHECK.due("full ahead of faults", Check.close(map, 0, 0), ParcelMap.FULL);
         CHECK.due("outside ahead of full", map.close(4, 0), ParcelMap.OUTSIDE);
-        CHECK.due("split is full too", map.split(0, 0, 2, 0), ParcelMap.FULL);
         CHECK.due("apart ahead of full", map.split(0, 0, 1, 0), ParcelMap.APART);
         CHECK.due("drop", map.drop(59), 59);
-        CHECK.due("no number twice", Check.box(map, 0, 0, 5, 1, 6), ParcelMap.FULL);
-        CHECK.due("made ever", map.count(2), 60);
+        CHECK.due("no number twice", Check.box(map, 0, 0, -6, 1, -5), ParcelMap.FULL);
+        CHECK.due("made ever, still", map.count(2), 60);
     }
 }

@@ -4,8 +4,14 @@ import java.lang.reflect.Method;
 import java.lang.reflect.Modifier;
 import java.nio.file.Files;
 import java.nio.file.Path;
+import java.util.ArrayList;
+import java.util.List;
+import java.util.Map;
 import java.util.Set;
+import java.util.TreeMap;
 import java.util.TreeSet;
+import java.util.regex.Matcher;
+import java.util.regex.Pattern;
 
 /** The face of the document, and those rules of the language that a program can look at. */
 final class FaceTest {
@@ -25,6 +31,8 @@ final class FaceTest {
         constants();
         classesInside();
         source();
+        names();
+        lengthsAndDepths();
         CHECK.finish();
     }
 
@@ -96,9 +104,13 @@ final class FaceTest {
         }
     }
 
-    private static void source() throws Exception {
+    private static String code() throws Exception {
         String text = Files.readString(Path.of("src/main/java/ParcelMap.java"));
-        String code = text.replaceAll("(?s)/\\*.*?\\*/", "").replaceAll("//[^\n]*", "");
+        return text.replaceAll("(?s)/\\*.*?\\*/", "").replaceAll("//[^\n]*", "");
+    }
+
+    private static void source() throws Exception {
+        String code = code();
         for (String word : new String[] {"throw", "try", "catch", "synchronized", "assert", "import",
             "Double", "strictfp", "->", "::", "Exact", "equals", "hashCode", "toString", "%"}) {
             CHECK.holds("the source has no " + word, !code.contains(word));
@@ -113,5 +125,68 @@ final class FaceTest {
             }
             CHECK.holds("made in a constructor: " + line, !end.isEmpty() || !line.contains("new "));
         }
+    }
+
+    /** The library: of all that rule 4 leaves, two functions of Math are all there is. */
+    private static void names() throws Exception {
+        Set<String> known = new TreeSet<>(Set.of("Math"));
+        for (Class<?> type : allClasses()) {
+            known.add(type.getSimpleName());
+        }
+        Matcher name = Pattern.compile("\\b([A-Z][A-Za-z]*[a-z][A-Za-z]*)\\b").matcher(code());
+        while (name.find()) {
+            CHECK.holds("the class " + name.group(1) + " is known", known.contains(name.group(1)));
+        }
+        Matcher math = Pattern.compile("Math\\.(\\w+)").matcher(code());
+        while (math.find()) {
+            CHECK.holds("Math." + math.group(1) + " is known", Set.of("max", "min").contains(math.group(1)));
+        }
+    }
+
+    /** Methods by their names, with their lines; the few that share a name are taken together. */
+    private static Map<String, List<String>> bodies() throws Exception {
+        Map<String, List<String>> bodies = new TreeMap<>();
+        Pattern head = Pattern.compile("( +)(?:public |private |static )*[\\w\\[\\]]+ (\\w+)\\(.*\\) \\{");
+        List<String> body = new ArrayList<>();
+        String end = "";
+        for (String line : code().split("\n")) {
+            Matcher match = head.matcher(line);
+            if (end.isEmpty() && match.matches()) {
+                end = match.group(1) + "}";
+                body = bodies.computeIfAbsent(match.group(2), name -> new ArrayList<>());
+            } else if (line.equals(end)) {
+                end = "";
+            } else if (!end.isEmpty()) {
+                body.add(line);
+            }
+        }
+        return bodies;
+    }
+
+    /** Rules 8 and 11: short methods, no recursion, and no more than eight calls open at once. */
+    private static void lengthsAndDepths() throws Exception {
+        Map<String, List<String>> bodies = bodies();
+        CHECK.holds("all methods are seen", bodies.keySet().containsAll(Set.of("digest", "relation", "cutOne")));
+        for (Map.Entry<String, List<String>> method : bodies.entrySet()) {
+            CHECK.holds(method.getKey() + " is short", method.getValue().size() <= 60);
+            CHECK.holds(method.getKey() + " goes at most eight deep", depth(bodies, method.getKey(), 0) <= 8);
+        }
+    }
+
+    private static int depth(Map<String, List<String>> bodies, String name, int above) {
+        if (above > 20) {
+            return above;
+        }
+        int deepest = 0;
+        Matcher call = Pattern.compile("(\\w+)\\(").matcher(String.join("\n", bodies.get(name)));
+        while (call.find()) {
+            String called = call.group(1);
+            if (bodies.containsKey(called)) {
+                deepest = Math.max(deepest, depth(bodies, called, above + 1));
+            } else if (called.equals("max") || called.equals("min")) {
+                deepest = Math.max(deepest, 1);
+            }
+        }
+        return deepest + 1;
     }
 }
