@@ -27,6 +27,7 @@ final class FaultsTest {
         joinFew();
         joinTwiceAndCrossed();
         joinOrder();
+        joinOutsideAheadOfFaults();
         joinApartAheadOfFaults();
         moveFaults();
         moveOrder();
@@ -293,6 +294,22 @@ final class FaultsTest {
                 0, 6, 2, 6, 4, 6, 5, 6, 5, 8, 2, 9, 0, 8);
         // Along the slot's side: the edges meet, and there are too many corners.
         joinDue("few ahead of crossed", ParcelMap.FEW, 13, 13, 0, 6, 2, 6, 2, 5, 4, 5, 4, 8, 1, 9, 0, 8);
+    }
+
+    /** Rings that would be TWICE, CROSSED or FEW if they were joined, in layers of their own. */
+    private static void joinOutsideAheadOfFaults() {
+        double[][] faulty = {{0, 6, 2, 6, 4, 6, 3, 8}, {0, 6, 2, 6, 5, 6, 3, 8},
+            {0, 6, 2, 6, 2, 8, 1.5, 9, 1, 9.5, 0.5, 9, 0, 8}};
+        for (double[] q : faulty) {
+            Supplier<ParcelMap> scene = () -> {
+                ParcelMap map = new ParcelMap();
+                Check.close(map, 0, 5, SLOT);
+                Check.close(map, 1, 6, q);
+                return map;
+            };
+            TWINS.refused("outside ahead of faults", scene, m -> m.join(0, 1), ParcelMap.OUTSIDE);
+            TWINS.refused("outside ahead of faults, round", scene, m -> m.join(1, 0), ParcelMap.OUTSIDE);
+        }
     }
 
     private static void joinApartAheadOfFaults() {

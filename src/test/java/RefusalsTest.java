@@ -126,7 +126,14 @@ final class RefusalsTest {
     private static final int[][] RINGS = {{7, 9, 11}, {0, 1}, {0, 1, 2, 3, 4, 5, 6, 7, 8, 9, 10, 11, 0},
         {0, 1, 2, 1}, {0, 2, 1, 3}, {0, 1, 2}};
 
+    /** What each of them is on a layer that there is, and with a number that is left. */
+    private static final int[] ANSWERS = {Scenes.PARCELS, ParcelMap.FEW, ParcelMap.FEW, ParcelMap.TWICE,
+        ParcelMap.CROSSED, ParcelMap.OVER};
+
     private static void close() {
+        for (int i = 0; i < RINGS.length; i++) {
+            CHECK.due("close of ring " + i, drawn(Scenes::busy, RINGS[i]).get().close(0, 5), ANSWERS[i]);
+        }
         for (int[] ring : RINGS) {
             String name = java.util.Arrays.toString(ring);
             for (int no : NO_LAYERS) {
