@@ -16,6 +16,7 @@ final class WaysTest {
             throughTeeth(scale);
             pastManyCorners(scale);
             middleOnTheOtherSide(scale);
+            middleInLineWithAnEdge(scale);
             splitThroughTeeth(scale);
             overTeeth(scale);
             overAtTheFirstCorner(scale);
@@ -137,6 +138,31 @@ final class WaysTest {
         walkDue("inside, by the inner corner", map, scale, 0, 4, 0, 12, 8);
         walkDue("inside, from border to border", map, scale, 0, 2, 4, 12, 1);
         walkDue("outside, from border to border", map, scale, ParcelMap.NONE, 6, 4, 8, 10);
+    }
+
+    /** One of the eight ways to turn a drawing on a square sheet, over or round. */
+    private static double[] turned(int way, double... xy) {
+        double[] all = xy.clone();
+        for (int i = 0; i + 1 < all.length; i += 2) {
+            boolean swap = (way & 4) != 0;
+            all[i] = ((way & 1) != 0 ? -1 : 1) * xy[swap ? i + 1 : i];
+            all[i + 1] = ((way & 2) != 0 ? -1 : 1) * xy[swap ? i : i + 1];
+        }
+        return all;
+    }
+
+    /** The middle of the way is in line with an edge, beyond its end, and inside. */
+    private static void middleInLineWithAnEdge(double scale) {
+        for (int way = 0; way < 8; way++) {
+            ParcelMap map = new ParcelMap();
+            Check.close(map, 0, 5, times(scale, turned(way, 0, 0, 20, 0, 20, 12, 8, 12, 8, 4, 0, 4)));
+            walkDue("in line with a level edge, " + way, map, scale, 0, turned(way, 7, 1, 17, 7));
+            walkDue("in line with an upright edge, " + way, map, scale, 0, turned(way, 1, 1, 15, 3));
+            map = new ParcelMap();
+            Check.close(map, 0, 5, times(scale, turned(way, 0, 0, 20, 0, 20, 20, 8, 20, 8, 8, 0, 4)));
+            walkDue("in line with a slanting edge, " + way, map, scale, 0, turned(way, 7, 2, 17, 18));
+            walkDue("in line, nearer to the edge, " + way, map, scale, 0, turned(way, 7, 2, 11, 15));
+        }
     }
 
     private static void splitDue(String name, double scale, int i, int j, int due) {
