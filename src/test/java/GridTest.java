@@ -3,7 +3,7 @@ import java.util.Arrays;
 import java.util.List;
 
 /**
- * Rings without chance: all sound rings of nine points in three rows, which are in line as often
+ * Rings without chance: all sound ones of a few corners on nine points, which are in line as often
  * as not. What is asked of each, and of each beside others, is asked of PlainMap too. Arguments,
  * if given: the most corners of a ring, and of how many pairs of rings one is tried.
  */
